@@ -774,8 +774,8 @@ public final class WalkHouses {
         }
 
         private boolean canBeIn(Chain chain, int stays, int i, int h) {
-            boolean isEnd = i == Math.max(stays, 0) || i == chain.length - 1;
-            if (isEnd && chain.way[i] != h) {
+            // The first house needs no such test: only ways from it are looked at in the end.
+            if (i == chain.length - 1 && chain.way[i] != h) {
                 return false;
             }
             return i <= stays || road.houses[h].hasRoom(chain.first + i, chain.size);
