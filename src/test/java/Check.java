@@ -1,13 +1,19 @@
 /** Counts and prints the answers that are not as due. */
 final class Check {
+    private String sentence = "";
     private int wrong = 0;
     private int asked = 0;
+
+    /** The document's words that the answers from here on are held against. */
+    void sentence(String words) {
+        sentence = words + ": ";
+    }
 
     void due(String what, long got, long want) {
         asked++;
         if (got != want) {
             wrong++;
-            System.out.println(what + " answered " + got + ", due is " + want);
+            System.out.println(sentence + what + " answered " + got + ", due is " + want);
         }
     }
 
