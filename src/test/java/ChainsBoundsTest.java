@@ -22,6 +22,7 @@ public final class ChainsBoundsTest {
         outOfItsBeds();
         howItIs();
         milesSleptAtBothEnds();
+        milesOfSevenNights();
         laidOrSlept();
         laidInDorms();
         check.end();
@@ -262,6 +263,22 @@ public final class ChainsBoundsTest {
         due("one night slept", y.about(k, 6), 1);
         y.pass();
         due("slept at both ends", y.about(k, 4), 1);
+    }
+
+    private static void milesOfSevenNights() {
+        check.sentence("15: MILES, NIGHTS SLEPT of the longest CHAIN, up to the last NIGHT that passes");
+        WalkHouses x = Scenes.lineOfHouses(8, 2);
+        int k = Scenes.givenOf(x, 1, 32, 0, 1, 2, 3, 4, 5, 6);
+        Scenes.passes(x, 32);
+        int miles = 0;
+        for (int i = 0; i < 7; i++) {
+            x.arrive(k);
+            due("slept", x.pass(), 1);
+            miles += i;
+            due("miles up to night " + i, x.about(k, 4), miles);
+            due("nights slept", x.about(k, 6), i + 1);
+        }
+        due("gone in night 39", x.about(k, 3), 3);
     }
 
     private static void laidOrSlept() {

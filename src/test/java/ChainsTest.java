@@ -36,14 +36,6 @@ public final class ChainsTest {
         return x;
     }
 
-    private static int chainOf(WalkHouses x, int size, int night, int... way) {
-        int k = x.chain(size, night, way[0]);
-        for (int i = 1; i < way.length; i++) {
-            x.add(k, way[i]);
-        }
-        return k;
-    }
-
     private static void chain() {
         WalkHouses x = new WalkHouses();
         due("8 no such house", x.chain(1, 0, 0), BAD);
@@ -78,7 +70,7 @@ public final class ChainsTest {
         due("9 full", x.add(k, 0), FULL);
         int late = x.chain(1, 39, 0);
         due("9 beyond night 39", x.add(late, 0), BAD);
-        int seven = chainOf(x, 1, 33, 0, 0, 0, 0, 0, 0, 0);
+        int seven = Scenes.chainOf(x, 1, 33, 0, 0, 0, 0, 0, 0, 0);
         due("9 seven to night 39", x.about(seven, 2), 7);
         due("9 BAD goes ahead of FULL", x.add(seven, 0), BAD);
         x.give(k);
@@ -92,29 +84,29 @@ public final class ChainsTest {
     private static void give() {
         WalkHouses x = line();
         due("10 no such chain", x.give(0), BAD);
-        due("10 not joined with the one ahead", x.give(chainOf(x, 1, 1, 0, 1, 3, 2)), 2);
+        due("10 not joined with the one ahead", x.give(Scenes.chainOf(x, 1, 1, 0, 1, 3, 2)), 2);
         x.shut(1, 2, 2);
-        due("10 shut", x.give(chainOf(x, 1, 1, 0, 1, 2)), 1);
-        due("10 shut in another night", x.give(chainOf(x, 1, 2, 0, 1, 2)), NONE);
-        int many = chainOf(x, 7, 1, 0);
+        due("10 shut", x.give(Scenes.chainOf(x, 1, 1, 0, 1, 2)), 1);
+        due("10 shut in another night", x.give(Scenes.chainOf(x, 1, 2, 0, 1, 2)), NONE);
+        int many = Scenes.chainOf(x, 7, 1, 0);
         due("10 too few beds", x.give(many), 0);
         due("10 it stays asked", x.about(many, 3), 0);
         due("10 nothing is laid", x.free(0, NONE, 1), 6);
-        int whole = chainOf(x, 6, 10, 0, 0, 1, 2, 3, 3, 2);
+        int whole = Scenes.chainOf(x, 6, 10, 0, 0, 1, 2, 3, 3, 2);
         due("10 given", x.give(whole), NONE);
         due("10 it is given", x.about(whole, 3), 1);
         for (int i = 0; i < 7; i++) {
             due("10 laid in all nights", x.free(x.about(whole, 10 + i), NONE, 10 + i), 0);
         }
-        int barred = chainOf(x, 1, 9, 1, 0, 0, 1);
+        int barred = Scenes.chainOf(x, 1, 9, 1, 0, 0, 1);
         due("10 the first night that bars", x.give(barred), 1);
         due("10 given whole or not at all", x.free(1, NONE, 9), 6);
     }
 
     private static void giveNot() {
         WalkHouses x = line();
-        int given = chainOf(x, 1, 1, 0);
-        int missed = chainOf(x, 1, 0, 0, 0);
+        int given = Scenes.chainOf(x, 1, 1, 0);
+        int missed = Scenes.chainOf(x, 1, 0, 0, 0);
         x.give(given);
         due("10 given already", x.give(given), NOT);
         due("11 given already", x.other(given), NOT);
@@ -126,15 +118,9 @@ public final class ChainsTest {
         due("12 its first night is ahead of now", x.offered(missed, 0), NOT);
         due("12 BAD goes ahead of NOT", x.offered(missed, 2), BAD);
         due("13 its first night is ahead of now", x.take(missed), NOT);
-        due("10 its first night is now", x.give(chainOf(x, 1, 1, 0)), NONE);
+        due("10 its first night is now", x.give(Scenes.chainOf(x, 1, 1, 0)), NONE);
         due("10 chain -1", x.give(-1), BAD);
         due("10 chain 3", x.give(3), BAD);
-    }
-
-    private static void laidIs(String what, WalkHouses x, int k, int a, int b, int c) {
-        due(what + ", dorm 0", x.laid(k, 0, 0), a);
-        due(what + ", dorm 1", x.laid(k, 0, 1), b);
-        due(what + ", dorm 2", x.laid(k, 0, 2), c);
     }
 
     private static int laying(int a, int b, int c, int n, WalkHouses x) {
@@ -146,21 +132,21 @@ public final class ChainsTest {
 
     private static void layingByFewestDorms() {
         WalkHouses x = new WalkHouses();
-        laidIs("10 dorm 0 is enough", x, laying(3, 3, 3, 3, x), 3, 0, 0);
-        laidIs("10 dorm 1 is enough", x, laying(2, 3, 4, 3, x), 0, 3, 0);
-        laidIs("10 dorm 2 is enough", x, laying(2, 2, 4, 4, x), 0, 0, 4);
-        laidIs("10 dorms 0 and 1", x, laying(2, 3, 4, 5, x), 2, 3, 0);
-        laidIs("10 dorms 0 and 2", x, laying(3, 2, 4, 6, x), 3, 0, 3);
-        laidIs("10 dorms 1 and 2", x, laying(1, 3, 4, 6, x), 0, 3, 3);
-        laidIs("10 all three", x, laying(3, 3, 4, 9, x), 3, 3, 3);
-        laidIs("10 the last one is not filled", x, laying(9, 9, 9, 12, x), 9, 3, 0);
+        Scenes.laidIs(check, "10 dorm 0 is enough", x, laying(3, 3, 3, 3, x), 3, 0, 0);
+        Scenes.laidIs(check, "10 dorm 1 is enough", x, laying(2, 3, 4, 3, x), 0, 3, 0);
+        Scenes.laidIs(check, "10 dorm 2 is enough", x, laying(2, 2, 4, 4, x), 0, 0, 4);
+        Scenes.laidIs(check, "10 dorms 0 and 1", x, laying(2, 3, 4, 5, x), 2, 3, 0);
+        Scenes.laidIs(check, "10 dorms 0 and 2", x, laying(3, 2, 4, 6, x), 3, 0, 3);
+        Scenes.laidIs(check, "10 dorms 1 and 2", x, laying(1, 3, 4, 6, x), 0, 3, 3);
+        Scenes.laidIs(check, "10 all three", x, laying(3, 3, 4, 9, x), 3, 3, 3);
+        Scenes.laidIs(check, "10 the last one is not filled", x, laying(9, 9, 9, 12, x), 9, 3, 0);
         due("10 what is left", x.free(7, 1, 0), 6);
         int second = x.chain(7, 0, 7);
         x.give(second);
-        laidIs("10 by what is free", x, second, 0, 0, 7);
+        Scenes.laidIs(check, "10 by what is free", x, second, 0, 0, 7);
         int third = x.chain(7, 0, 7);
         x.give(third);
-        laidIs("10 by what is free still", x, third, 0, 6, 1);
+        Scenes.laidIs(check, "10 by what is free still", x, third, 0, 6, 1);
     }
 
     private static void otherAndOffered() {
@@ -168,7 +154,7 @@ public final class ChainsTest {
         due("11 no such chain", x.other(0), BAD);
         due("12 no such chain", x.offered(0, 0), BAD);
         due("13 no such chain", x.take(0), BAD);
-        int own = chainOf(x, 2, 1, 0, 1, 2);
+        int own = Scenes.chainOf(x, 2, 1, 0, 1, 2);
         due("11 its own is open", x.other(own), 0);
         due("12 its own", x.offered(own, 1), 1);
         due("12 night -1", x.offered(own, -1), BAD);
@@ -185,19 +171,19 @@ public final class ChainsTest {
         due("12 there is none", x.offered(own, 1), NONE);
         due("13 there is none", x.take(own), NONE);
         due("13 it stays asked", x.about(own, 3), 0);
-        int alone = chainOf(x, 7, 1, 0);
+        int alone = Scenes.chainOf(x, 7, 1, 0);
         due("11 first and last stay", x.other(alone), NONE);
-        int notJoined = chainOf(x, 1, 5, 0, 2, 3);
+        int notJoined = Scenes.chainOf(x, 1, 5, 0, 2, 3);
         due("11 two that are not joined", x.other(notJoined), NONE);
-        int mended = chainOf(x, 1, 5, 0, 3, 2);
+        int mended = Scenes.chainOf(x, 1, 5, 0, 3, 2);
         due("11 a house that was not joined", x.other(mended), 1);
         due("12 the lesser house", x.offered(mended, 1), 1);
     }
 
     private static void take() {
         WalkHouses x = line();
-        int k = chainOf(x, 6, 1, 0, 1, 2, 3);
-        int rival = chainOf(x, 1, 2, 1);
+        int k = Scenes.chainOf(x, 6, 1, 0, 1, 2, 3);
+        int rival = Scenes.chainOf(x, 1, 2, 1);
         x.give(rival);
         due("13 nights changed", x.take(k), 1);
         due("13 its way", x.about(k, 11), 4);
@@ -205,7 +191,7 @@ public final class ChainsTest {
         due("13 laid there", x.free(4, NONE, 2), 0);
         due("13 not there", x.free(1, NONE, 2), 5);
         due("13 laid in the last", x.free(3, NONE, 4), 0);
-        int own = chainOf(x, 5, 20, 0, 1);
+        int own = Scenes.chainOf(x, 5, 20, 0, 1);
         due("13 its own", x.take(own), 0);
         due("13 laid by fewest dorms", x.laid(own, 0, 0), 4);
     }
@@ -224,7 +210,7 @@ public final class ChainsTest {
         x.stage(1, 3, 1);
         x.stage(2, 3, 1);
         x.stage(3, 0, 1);
-        int k = chainOf(x, 1, 1, 6, 5, 4, 0);
+        int k = Scenes.chainOf(x, 1, 1, 6, 5, 4, 0);
         x.shut(5, 2, 2);
         due("11 two nights", x.other(k), 2);
         due("12 the lesser where they part first", x.offered(k, 1), 1);
@@ -241,7 +227,7 @@ public final class ChainsTest {
         int[] k = new int[6];
         int[] nights = {3, 4, 5, 6, 30, 2};
         for (int i = 0; i < 6; i++) {
-            k[i] = chainOf(x, 1, nights[i], 0, 1);
+            k[i] = Scenes.chainOf(x, 1, nights[i], 0, 1);
             due("14 it is not given", x.giveUp(k[i]), NOT);
             x.give(k[i]);
         }
@@ -269,7 +255,7 @@ public final class ChainsTest {
         WalkHouses x = line();
         due("15 no such chain", x.about(0, 0), BAD);
         x.chores(1, 3);
-        int k = chainOf(x, 3, 1, 0, 1, 1, 2, 3);
+        int k = Scenes.chainOf(x, 3, 1, 0, 1, 1, 2, 3);
         due("15 chain -1", x.about(-1, 0), BAD);
         x.give(k);
         x.pass();
@@ -293,7 +279,7 @@ public final class ChainsTest {
         for (int what : bad) {
             due("15 about " + what, x.about(k, what), BAD);
         }
-        int asked = chainOf(x, 1, 20, 0);
+        int asked = Scenes.chainOf(x, 1, 20, 0);
         due("15 not laid", x.about(asked, 20), 0);
         due("15 no night slept", x.about(asked, 6), 0);
     }
@@ -301,7 +287,7 @@ public final class ChainsTest {
     private static void laid() {
         WalkHouses x = line();
         due("16 no such chain", x.laid(0, 0, 0), BAD);
-        int k = chainOf(x, 5, 1, 0, 1);
+        int k = Scenes.chainOf(x, 5, 1, 0, 1);
         due("16 asked", x.laid(k, 0, 0), 0);
         x.give(k);
         due("16 dorm 0", x.laid(k, 1, 0), 4);

@@ -200,15 +200,18 @@ public final class DoorBoundsTest {
 
     private static void allOfThemWouldNotDo() {
         check.sentence("20: if all of them would not do: none");
-        WalkHouses x = Scenes.houses(1, 9);
-        int here = Scenes.givenOf(x, 1, 0, 0);
-        x.arrive(here);
-        int[] late = {Scenes.givenOf(x, 3, 0, 0), Scenes.givenOf(x, 4, 0, 0)};
-        due("one too many", x.door(0, 9, 12), NONE);
-        due("none loses", x.about(late[0], 20), 1);
-        due("none loses", x.about(late[1], 20), 1);
-        due("a bed is free as it was", x.free(0, NONE, 0), 1);
-        due("one less", x.door(0, 8, 12), 2);
+        for (int night = 0; night <= 39; night += 13) {
+            WalkHouses x = Scenes.houses(1, 9);
+            Scenes.passes(x, night);
+            int here = Scenes.givenOf(x, 1, night, 0);
+            x.arrive(here);
+            int[] late = {Scenes.givenOf(x, 3, night, 0), Scenes.givenOf(x, 4, night, 0)};
+            due("one too many in night " + night, x.door(0, 9, 12), NONE);
+            due("none loses", x.about(late[0], 20), 1);
+            due("none loses", x.about(late[1], 20), 1);
+            due("a bed is free as it was", x.free(0, NONE, night), 1);
+            due("one less in night " + night, x.door(0, 8, 12), 2);
+        }
     }
 
     private static void onlyThoseLaidThereNow() {
@@ -223,6 +226,10 @@ public final class DoorBoundsTest {
         due("the one elsewhere", x.about(elsewhere, 20), 1);
         due("the one of a later night", x.about(later, 20), 1);
         due("the one that is asked", x.about(asked, 3), 0);
+        due("the other house", x.door(1, 1, 12), 1);
+        due("the one that is there", x.about(elsewhere, 20), 0);
+        due("a bed is left there", x.free(1, NONE, 0), 1);
+        due("none is left here", x.free(0, NONE, 0), 0);
     }
 
     private static void bedsOfThisNightAlone() {

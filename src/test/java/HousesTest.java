@@ -143,39 +143,14 @@ public final class HousesTest {
         due("7 behind now", x.shut(0, 2, 2), 0);
     }
 
-    /** Houses 0 .. 4, each joined with each. */
-    private static WalkHouses ring(int beds) {
-        WalkHouses x = new WalkHouses();
-        for (int k = 0; k < 5; k++) {
-            x.house(beds, 0, 0, 12);
-        }
-        for (int a = 0; a < 5; a++) {
-            for (int b = a + 1; b < 5; b++) {
-                x.stage(a, b, 10 * a + b);
-            }
-        }
-        return x;
-    }
-
-    private static int chainOf(WalkHouses x, int size, int night, int... way) {
-        int k = x.chain(size, night, way[0]);
-        for (int i = 1; i < way.length; i++) {
-            x.add(k, way[i]);
-        }
-        return k;
-    }
-
     private static void wayIs(String what, WalkHouses x, int k, int... way) {
-        due(what + ", houses", x.about(k, 2), way.length);
-        for (int i = 0; i < way.length; i++) {
-            due(what + ", house " + i, x.about(k, 10 + i), way[i]);
-        }
+        Scenes.wayIs(check, what, x, k, way);
     }
 
     private static void shutLeadsRound() {
-        WalkHouses x = ring(4);
-        int given = chainOf(x, 2, 1, 4, 3, 2);
-        int asked = chainOf(x, 2, 1, 4, 3, 2);
+        WalkHouses x = Scenes.joinedHouses(5, 4);
+        int given = Scenes.chainOf(x, 2, 1, 4, 3, 2);
+        int asked = Scenes.chainOf(x, 2, 1, 4, 3, 2);
         x.give(given);
         due("7 it was laid elsewhere in these", x.shut(3, 3, 5), 0);
         wayIs("7 untouched", x, given, 4, 3, 2);
@@ -190,9 +165,9 @@ public final class HousesTest {
     }
 
     private static void shutRefusesAndCuts() {
-        WalkHouses x = ring(4);
-        int later = chainOf(x, 2, 1, 0, 1, 2);
-        int begun = chainOf(x, 1, 0, 3, 3, 1, 2);
+        WalkHouses x = Scenes.joinedHouses(5, 4);
+        int later = Scenes.chainOf(x, 2, 1, 0, 1, 2);
+        int begun = Scenes.chainOf(x, 1, 0, 3, 3, 1, 2);
         x.give(later);
         x.give(begun);
         due("7 both find none", x.shut(2, 3, 3), 2);
@@ -211,8 +186,8 @@ public final class HousesTest {
     }
 
     private static void shutKeepsTheHouseOfNow() {
-        WalkHouses x = ring(2);
-        int k = chainOf(x, 2, 0, 0, 1, 2);
+        WalkHouses x = Scenes.joinedHouses(5, 2);
+        int k = Scenes.chainOf(x, 2, 0, 0, 1, 2);
         x.give(k);
         due("7 its beds of now are lost", x.door(0, 2, 12), 1);
         due("7 led round, though not open now", x.shut(1, 1, 1), 0);
@@ -227,17 +202,17 @@ public final class HousesTest {
         }
         y.stage(0, 1, 3);
         y.stage(1, 2, 4);
-        int line = chainOf(y, 1, 0, 0, 1, 2);
+        int line = Scenes.chainOf(y, 1, 0, 0, 1, 2);
         y.give(line);
         due("7 no stage round", y.shut(1, 1, 1), 1);
         wayIs("7 cut", y, line, 0);
     }
 
     private static void shutOneAfterAnother() {
-        WalkHouses x = ring(3);
-        int a = chainOf(x, 2, 1, 1, 4, 1);
-        int c = chainOf(x, 2, 1, 2, 3, 2);
-        int b = chainOf(x, 1, 1, 1, 4, 1);
+        WalkHouses x = Scenes.joinedHouses(5, 3);
+        int a = Scenes.chainOf(x, 2, 1, 1, 4, 1);
+        int c = Scenes.chainOf(x, 2, 1, 2, 3, 2);
+        int b = Scenes.chainOf(x, 1, 1, 1, 4, 1);
         x.give(a);
         x.give(c);
         x.give(b);

@@ -30,6 +30,7 @@ public final class NightsBoundsTest {
         digestOfEach();
         digestFromNowOn();
         digestWraps();
+        digestOfAFullObject();
         check.end();
     }
 
@@ -418,5 +419,27 @@ public final class NightsBoundsTest {
         y.pass();
         // The night is count 3, behind which 31 is taken six times more.
         due("a night later", y.digest(), h + 31L * 31 * 31 * 31 * 31 * 31);
+    }
+
+    private static void digestOfAFullObject() {
+        check.sentence("25: of each CHAIN and HOUSE: 40 CHAINS of 7 HOUSES, 12 HOUSES");
+        WalkHouses x = Scenes.houses(12, 9);
+        long h = 17;
+        int[] counts = {12, 0, 40, 0, 0, 0, 0, 0, 0, 0};
+        for (int n : counts) {
+            h = 31 * h + n;
+        }
+        for (int k = 0; k < 40; k++) {
+            int house = k % 12;
+            Scenes.chainOf(x, 1, 33, house, 11, house, 11, house, 11, house);
+            int[] told = {0, 0, 0, 0, house, 11, house, 11, house, 11, house};
+            for (int n : told) {
+                h = 31 * h + n;
+            }
+        }
+        for (int n = 0; n < 12 * 40; n++) {
+            h = 31 * h + 9;
+        }
+        due("digest", x.digest(), h);
     }
 }

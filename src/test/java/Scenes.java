@@ -57,6 +57,13 @@ final class Scenes {
         return x;
     }
 
+    /** A stage of three miles between each two of these: the first and second, the third and fourth, .. */
+    static void join(WalkHouses x, int... ends) {
+        for (int i = 0; i + 1 < ends.length; i += 2) {
+            x.stage(ends[i], ends[i + 1], 3);
+        }
+    }
+
     static void wayIs(Check check, String what, WalkHouses x, int k, int... way) {
         check.due(what + ", how many houses", x.about(k, 2), way.length);
         for (int i = 0; i < way.length; i++) {

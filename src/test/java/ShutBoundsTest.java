@@ -18,11 +18,16 @@ public final class ShutBoundsTest {
         firstNightBehindNow();
         firstNightIsNow();
         firstNightPassed();
+        fromTheHouseOfNow();
+        fromNoLesserHouse();
         lastNightIsNow();
         houseOfNowNeedNotBeOpen();
         houseOfNowIsShutLater();
         refusedWhole();
         endsWithNow();
+        dormsOfWhoIsNotMet();
+        dormsOfAllNightsBehindNow();
+        dormOfNow();
         fewestNightsAndLesserHouse();
         howManyFoundNone();
         check.end();
@@ -201,6 +206,32 @@ public final class ShutBoundsTest {
         due("miles stay", x.about(k, 4), 5);
     }
 
+    private static void fromTheHouseOfNow() {
+        check.sentence("7: of its NIGHTS from now on: from the HOUSE of now, not from its first");
+        WalkHouses x = Scenes.lineOfHouses(4, 2);
+        int cut = Scenes.givenOf(x, 1, 0, 2, 1, 2, 3);
+        x.pass();
+        due("from its first house there would be a way", x.shut(2, 2, 2), 1);
+        Scenes.wayIs(check, "it ends with now", x, cut, 2, 1);
+        WalkHouses y = Scenes.lineOfHouses(3, 2);
+        int led = Scenes.givenOf(y, 1, 0, 0, 1, 1, 2);
+        y.pass();
+        due("from its first house there would be none", y.shut(1, 2, 2), 0);
+        Scenes.wayIs(check, "led round", y, led, 0, 1, 2, 2);
+        due("laid there", y.free(2, NONE, 2), 1);
+    }
+
+    private static void fromNoLesserHouse() {
+        check.sentence("7: the HOUSE of now stays, though from a lesser one fewer NIGHTS would part");
+        WalkHouses x = Scenes.houses(8, 2);
+        // From 5 by 4 and 3 (asked) or by 6 and 7 to 2; from 0 by 1 and 3.
+        Scenes.join(x, 5, 4, 4, 3, 3, 2, 5, 6, 6, 7, 7, 2, 0, 1, 1, 3);
+        int k = Scenes.givenOf(x, 1, 0, 5, 5, 4, 3, 2);
+        x.pass();
+        due("led round", x.shut(4, 2, 2), 0);
+        Scenes.wayIs(check, "by 6 and 7", x, k, 5, 5, 6, 7, 2);
+    }
+
     private static void lastNightIsNow() {
         check.sentence("7: LAID there in one of these: one whose last NIGHT is now is not");
         WalkHouses x = Scenes.houses(1, 2);
@@ -285,6 +316,55 @@ public final class ShutBoundsTest {
         x.arrive(k);
         due("it sleeps", x.pass(), 1);
         due("gone, its last night passed", x.about(k, 3), 3);
+    }
+
+    /**
+     * House 0 has two dorms of two beds. A chain of two by 0, 1, 0 lies in dorm 1 in its first night,
+     * since another one lay in dorm 0, which is given up then.
+     */
+    private static WalkHouses dormZeroLeft(int first) {
+        WalkHouses x = new WalkHouses();
+        x.house(2, 2, 0, 12);
+        x.house(2, 0, 0, 12);
+        x.house(2, 0, 0, 12);
+        x.stage(0, 1, 1);
+        x.stage(0, 2, 1);
+        int leaver = Scenes.givenOf(x, 2, first, 0);
+        int k = Scenes.givenOf(x, 2, first, 0, 1, 0);
+        x.giveUp(leaver);
+        Scenes.laidIs(check, "at first", x, k, 0, 2, 0);
+        return x;
+    }
+
+    private static void dormsOfWhoIsNotMet() {
+        check.sentence("7: CHAINS that are LAID there: who is not keeps its DORMS");
+        WalkHouses x = dormZeroLeft(5);
+        due("nobody is met", x.shut(2, 5, 7), 0);
+        Scenes.laidIs(check, "not laid anew", x, 1, 0, 2, 0);
+        due("nobody is met", x.shut(1, 5, 5), 0);
+        Scenes.laidIs(check, "nights ahead of its own there", x, 1, 0, 2, 0);
+        due("nobody is met", x.shut(1, 7, 9), 0);
+        Scenes.laidIs(check, "nights behind its own there", x, 1, 0, 2, 0);
+    }
+
+    private static void dormsOfAllNightsBehindNow() {
+        check.sentence("7: taken out of all its NIGHTS behind now, and LAID in them");
+        WalkHouses x = dormZeroLeft(1);
+        due("led round", x.shut(1, 2, 2), 0);
+        Scenes.wayIs(check, "its way", x, 1, 0, 0, 0);
+        Scenes.laidIs(check, "its first night is laid anew too", x, 1, 2, 0, 0);
+        due("dorm 1 is free", x.free(0, 1, 1), 2);
+    }
+
+    private static void dormOfNow() {
+        check.sentence("7: the HOUSE of now is not LAID anew");
+        WalkHouses x = dormZeroLeft(1);
+        x.pass();
+        due("led round", x.shut(1, 2, 2), 0);
+        Scenes.wayIs(check, "its way", x, 1, 0, 0, 0);
+        Scenes.laidIs(check, "now it lies where it lay", x, 1, 0, 2, 0);
+        due("dorm 0 is free", x.free(0, 0, 1), 2);
+        due("dorm 0 in the next night", x.laid(1, 1, 0), 2);
     }
 
     private static void fewestNightsAndLesserHouse() {

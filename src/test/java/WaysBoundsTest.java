@@ -191,10 +191,7 @@ public final class WaysBoundsTest {
     /** From 0 to 6 by 1 to 5, or by 7 to 11. */
     private static WalkHouses twoRoads() {
         WalkHouses x = Scenes.houses(12, 2);
-        int[] ends = {0, 1, 1, 2, 2, 3, 3, 4, 4, 5, 5, 6, 0, 7, 7, 8, 8, 9, 9, 10, 10, 11, 11, 6};
-        for (int i = 0; i < ends.length; i += 2) {
-            x.stage(ends[i], ends[i + 1], 3);
-        }
+        Scenes.join(x, 0, 1, 1, 2, 2, 3, 3, 4, 4, 5, 5, 6, 0, 7, 7, 8, 8, 9, 9, 10, 10, 11, 11, 6);
         return x;
     }
 
@@ -221,10 +218,7 @@ public final class WaysBoundsTest {
         check.sentence("those that part from its WAY in the fewest NIGHTS");
         WalkHouses x = Scenes.houses(7, 2);
         // From 5 to 6 by 3 and 4 (asked), by 0 and 1, or by 2 and 4.
-        int[] ends = {5, 3, 3, 4, 4, 6, 5, 0, 0, 1, 1, 6, 5, 2, 2, 4};
-        for (int i = 0; i < ends.length; i += 2) {
-            x.stage(ends[i], ends[i + 1], 3);
-        }
+        Scenes.join(x, 5, 3, 3, 4, 4, 6, 5, 0, 0, 1, 1, 6, 5, 2, 2, 4);
         int k = Scenes.chainOf(x, 1, 1, 5, 3, 4, 6);
         x.shut(3, 2, 2);
         due("one night, not two by lesser houses", x.other(k), 1);
@@ -242,10 +236,7 @@ public final class WaysBoundsTest {
         check.sentence("of these the one with the lesser HOUSE where they part first");
         WalkHouses x = Scenes.houses(8, 2);
         // From 7 to 6: by 1 and 5, or by 2 and 0; both part in two nights from 3 and 4.
-        int[] ends = {7, 3, 3, 4, 4, 6, 7, 1, 1, 5, 5, 6, 7, 2, 2, 0, 0, 6};
-        for (int i = 0; i < ends.length; i += 2) {
-            x.stage(ends[i], ends[i + 1], 3);
-        }
+        Scenes.join(x, 7, 3, 3, 4, 4, 6, 7, 1, 1, 5, 5, 6, 7, 2, 2, 0, 0, 6);
         int k = Scenes.chainOf(x, 1, 1, 7, 3, 4, 6);
         x.shut(4, 3, 3);
         due("two nights", x.other(k), 2);
