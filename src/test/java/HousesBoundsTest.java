@@ -11,6 +11,7 @@ public final class HousesBoundsTest {
         newObject();
         firstOfEach();
         objectsApart();
+        call512();
         twelveHouses();
         oneToThreeDorms();
         fortyStages();
@@ -55,6 +56,23 @@ public final class HousesBoundsTest {
         due("houses", y.count(0), 0);
         due("night", y.count(3), 0);
         due("the other one keeps its houses", x.count(0), Scenes.VILLAGE_HOUSES);
+    }
+
+    private static void call512() {
+        check.sentence("An object is used for at most 512 calls after it has been made");
+        WalkHouses x = Twins.after(Scenes::village);
+        WalkHouses y = Twins.after(Scenes::village);
+        long digest = y.digest();
+        // The village is told in fewer than 112 calls.
+        for (int n = 0; n < 400; n++) {
+            due("a question among them", x.count(0), Scenes.VILLAGE_HOUSES);
+        }
+        due("the last calls", x.digest(), digest);
+        WalkHouses z = new WalkHouses();
+        for (int n = 1; n < 512; n++) {
+            due("call " + n, z.house(0, 0, 0, 0), BAD);
+        }
+        due("call 512", z.house(1, 0, 0, 0), 0);
     }
 
     private static void twelveHouses() {
@@ -196,6 +214,8 @@ public final class HousesBoundsTest {
         x.door(0, 2, 0);
         due("walkers too", x.free(0, NONE, 1), 1);
         due("walkers stay one night", x.free(0, NONE, 2), 5);
+        x.pass();
+        due("as they were in a night that passed", x.free(0, NONE, 1), 1);
         x.house(7, 0, 0, 0);
         due("a house told later, in nights that passed", x.free(1, NONE, 0), 7);
     }
