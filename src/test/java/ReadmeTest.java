@@ -11,13 +11,14 @@ import java.util.stream.Stream;
 /** README.md: its example, taken as it stands, its tables of answers and calls, its list of tests. */
 public final class ReadmeTest {
     private static final Check check = new Check();
+    private static final Path SOURCE = Path.of("src/main/java/WalkHouses.java");
     private static final Path OUTPUT = Path.of("output.txt");
 
     public static void main(String[] args) throws IOException, InterruptedException {
         String page = Files.readString(Path.of("README.md"));
         example(page);
         names(page);
-        calls(page, Files.readString(Path.of("../shared/DOC.md")));
+        calls(page, Files.readString(SOURCE));
         words(page);
         tests(page);
         check.end();
@@ -28,9 +29,8 @@ public final class ReadmeTest {
         check.due("examples", all("(?m)^```java$", page).size(), 1);
         String section = between(page, "## An example", "## Tests");
         Path folder = Files.createTempDirectory("readme");
-        Path source = Path.of("src/main/java/WalkHouses.java");
-        Files.createDirectories(folder.resolve(source).getParent());
-        Files.copy(source, folder.resolve(source));
+        Files.createDirectories(folder.resolve(SOURCE).getParent());
+        Files.copy(SOURCE, folder.resolve(SOURCE));
         Files.writeString(folder.resolve("Example.java"), between(section, "```java\n", "```"));
         List<String> commands = all("(?m)^    (java.*)$", between(page, "## An example", "```java"));
         check.due("commands of the example", commands.size(), 2);
@@ -76,12 +76,12 @@ public final class ReadmeTest {
         check.holds("FULL", page.contains("| `WalkHouses.FULL` | " + WalkHouses.FULL + " |"));
     }
 
-    /** The tables have the calls of the document's face, with the same numbers, in the same order. */
-    private static void calls(String page, String document) {
+    /** The tables have the calls of the class (FaceTest holds them against the document), in their order. */
+    private static void calls(String page, String source) {
         List<String> told = all("(?m)^\\| `(\\w+\\([^)]*\\))` \\|", page);
-        List<String> due = all("(?m)^    public (?:int|long) (\\w+\\([^)]*\\));", document);
-        check.due("calls of the document", due.size(), 24);
-        check.holds("calls of README.md " + told + ", of the document " + due, told.equals(due));
+        List<String> due = all("(?m)^    public (?:int|long) (\\w+\\([^)]*\\)) \\{", source);
+        check.due("calls of the class", due.size(), 24);
+        check.holds("calls of README.md " + told + ", of the class " + due, told.equals(due));
     }
 
     private static void words(String page) {
